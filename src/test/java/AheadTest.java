@@ -18,7 +18,7 @@ public final class AheadTest {
         for (int second = 4; second <= 60; second++) {
             for (int read = 0; read <= 8; read++) {
                 for (int phase = 0; phase < second; phase++) {
-                    RollingDigits chip = new RollingDigits();
+                    Chip chip = new Chip();
                     chip.set(2, second);
                     chip.set(0, read);
                     if (phase > 0) {
@@ -50,7 +50,7 @@ public final class AheadTest {
     }
 
     private static void promise17Examples() {
-        RollingDigits chip = new RollingDigits();
+        Chip chip = new Chip();
         chip.pass(3);
         Checks.due("the last read at phase 15", 0, chip.safeIn());
         Checks.due("all can be read", 7, chip.readable());
@@ -64,28 +64,31 @@ public final class AheadTest {
         Checks.due("only these changes", 4, chip.count(12));
     }
 
-    private static void promise18IfBurst() {
-        RollingDigits chip = new RollingDigits();
+    private static Chip beforeNewMonth() {
+        Chip chip = new Chip();
         chip.arm(0, 31);
         Checks.setTime(chip, 0, 1, 0x31, 0x23, 0x59, 0x59);
         chip.set(0, 7);
         chip.pass(12);
+        return chip;
+    }
+
+    private static void promise18IfBurst() {
         for (int mode = 0; mode <= 2; mode++) {
-            String before = Checks.stateOf(chip);
-            int states = chip.count(12);
+            Chip chip = beforeNewMonth();
             int[] told = new int[10];
             for (int what = 0; what <= 9; what++) {
                 told[what] = chip.ifBurst(mode, what);
             }
-            Checks.same("ifBurst changes nothing", before, Checks.stateOf(chip));
-            Checks.due("states", states, chip.count(12));
+            Checks.same("the state behind ifBurst", Checks.stateOf(beforeNewMonth()), Checks.stateOf(chip));
+            Checks.due("states", 4, chip.count(12));
             Checks.due("burst(" + mode + ")", told[8], chip.burst(mode));
             for (int what = 0; what <= 9; what++) {
                 Checks.due("told " + what + " of mode " + mode, told[what], chip.log(0, what));
             }
             Checks.due("mode", mode, told[7]);
-            chip.undo();
         }
+        Chip chip = beforeNewMonth();
         Checks.due("the burst in turn is torn", 1, chip.ifBurst(0, 8));
         Checks.due("day", 1, chip.ifBurst(0, 4));
         Checks.due("minute", 0, chip.ifBurst(0, 1));
@@ -99,7 +102,7 @@ public final class AheadTest {
     }
 
     private static void promise19ComesIn() {
-        RollingDigits chip = new RollingDigits();
+        Chip chip = new Chip();
         Checks.due("comesIn(-1)", Checks.INVALID, chip.comesIn(-1));
         Checks.due("comesIn(3)", Checks.INVALID, chip.comesIn(3));
         Checks.due("not armed", Checks.IMPOSSIBLE, chip.comesIn(2));
@@ -129,7 +132,7 @@ public final class AheadTest {
     }
 
     private static void promise20Share() {
-        RollingDigits chip = new RollingDigits();
+        Chip chip = new Chip();
         Checks.due("without bursts", Checks.NONE, chip.share());
         int torn = 0;
         chip.set(0, 1);
@@ -144,18 +147,18 @@ public final class AheadTest {
             Checks.due("share of " + torn + " in " + all, Float.floatToIntBits((float) torn / (float) all), chip.share());
         }
         Checks.due("some are torn", 1, torn > 15 && torn < 40 ? 1 : 0);
-        RollingDigits all = new RollingDigits();
+        Chip all = new Chip();
         all.write(0, 0x59);
         all.pass(15);
         Checks.due("torn", 1, all.burst(0));
         Checks.due("all of them", Float.floatToIntBits(1.0f), all.share());
-        RollingDigits none = new RollingDigits();
+        Chip none = new Chip();
         none.burst(1);
         Checks.due("none of them", 0, none.share());
     }
 
     private static void promise21Count() {
-        RollingDigits chip = new RollingDigits();
+        Chip chip = new Chip();
         chip.set(0, 3);
         chip.set(1, 1);
         chip.set(2, 21);
@@ -187,24 +190,33 @@ public final class AheadTest {
         }
     }
 
-    private static void promise22Undo() {
-        RollingDigits chip = new RollingDigits();
-        Checks.due("empty", Checks.IMPOSSIBLE, chip.undo());
-        String[] states = new String[7];
-        for (int i = 0; i < 7; i++) {
-            states[i] = Checks.stateOf(chip);
+    private static Chip afterWritings(int writings) {
+        Chip chip = new Chip();
+        for (int i = 0; i < writings; i++) {
             chip.write(i, 0x40 + i);
             Checks.due("states", Math.min(i + 1, 4), chip.count(12));
         }
-        for (int left = 3; left >= 0; left--) {
+        return chip;
+    }
+
+    private static void promise22Undo() {
+        Checks.due("empty", Checks.IMPOSSIBLE, new Chip().undo());
+        for (int undone = 1; undone <= 4; undone++) {
+            Chip chip = afterWritings(7);
+            for (int left = 3; left >= 4 - undone; left--) {
+                Checks.due("undo()", left, chip.undo());
+                Checks.due("states", left, chip.count(12));
+            }
+            Checks.same("state behind " + undone, Checks.stateOf(afterWritings(7 - undone)), Checks.stateOf(chip));
+        }
+        Chip chip = afterWritings(3);
+        for (int left = 2; left >= 0; left--) {
             Checks.due("undo()", left, chip.undo());
-            Checks.same("state " + left, states[3 + left], Checks.stateOf(chip));
-            Checks.due("states", left, chip.count(12));
         }
         Checks.due("empty again", Checks.IMPOSSIBLE, chip.undo());
         chip.write(0, 1);
-        chip.undo();
-        Checks.same("undo is no change", states[3], Checks.stateOf(chip));
+        Checks.due("undo()", 0, chip.undo());
+        Checks.same("undo is no change", Checks.stateOf(new Chip()), Checks.stateOf(chip));
         Checks.due("states", 0, chip.count(12));
         chip.write(0, -1);
         Checks.due("errors are no changes", 0, chip.count(12));
@@ -212,7 +224,7 @@ public final class AheadTest {
 
     private static void promise22EachChange() {
         for (int change = 0; change < 11; change++) {
-            RollingDigits chip = new RollingDigits();
+            Chip chip = new Chip();
             chip.arm(0, 31);
             chip.fail(3, 3, 1);
             chip.burst(2);
@@ -229,24 +241,30 @@ public final class AheadTest {
         }
     }
 
+    private static Chip afterBursts(int bursts) {
+        Chip chip = new Chip();
+        for (int i = 1; i <= bursts; i++) {
+            chip.write(6, i);
+            chip.burst(1);
+        }
+        return chip;
+    }
+
     /** The latest of the log take the places of the oldest: these are there again. */
     private static void promise22Log() {
-        RollingDigits chip = new RollingDigits();
-        for (int i = 1; i <= 14; i++) {
-            chip.write(6, i);
-            String before = Checks.stateOf(chip);
+        for (int bursts = 0; bursts <= 14; bursts++) {
+            Chip chip = afterBursts(bursts);
             chip.burst(0);
             chip.burst(2);
             chip.undo();
             chip.undo();
-            Checks.same("log of " + i, before, Checks.stateOf(chip));
-            chip.burst(1);
-            Checks.due("latest year", i, chip.log(0, 6));
-            Checks.due("oldest year", i < 6 ? Checks.NONE : i - 5, chip.log(5, 6));
+            Checks.same("log of " + bursts, Checks.stateOf(afterBursts(bursts)), Checks.stateOf(chip));
+            Checks.due("latest year", bursts == 0 ? Checks.NONE : bursts, chip.log(0, 6));
+            Checks.due("oldest year", bursts < 6 ? Checks.NONE : bursts - 5, chip.log(5, 6));
         }
     }
 
-    private static void doChange(RollingDigits chip, int change) {
+    private static void doChange(Chip chip, int change) {
         switch (change) {
             case 0: chip.write(2, 9); break;
             case 1: chip.read(2); break;

@@ -9,7 +9,7 @@ public final class AlarmsTest {
     }
 
     private static void promise6Alarm() {
-        RollingDigits chip = new RollingDigits();
+        Chip chip = new Chip();
         for (int alarm = 0; alarm < 3; alarm++) {
             for (int register = 0; register < 5; register++) {
                 int value = 255 - 10 * alarm - register;
@@ -34,7 +34,7 @@ public final class AlarmsTest {
     }
 
     private static void promise7Arm() {
-        RollingDigits chip = new RollingDigits();
+        Chip chip = new Chip();
         Checks.due("arm(1, 17)", 0, chip.arm(1, 17));
         Checks.due("armed", 1, chip.alarmOf(1, 6));
         Checks.due("mask", 17, chip.alarmOf(1, 5));
@@ -59,7 +59,7 @@ public final class AlarmsTest {
 
     private static void promise7Matching() {
         for (int register = 0; register < 5; register++) {
-            RollingDigits chip = new RollingDigits();
+            Chip chip = new Chip();
             int[] atTick = {1, 0, 0, 6, 1};
             for (int other = 0; other < 5; other++) {
                 chip.alarm(0, other, atTick[other]);
@@ -73,7 +73,7 @@ public final class AlarmsTest {
             chip.pass(16);
             Checks.due("masked " + register, 1, chip.alarmOf(0, 7));
         }
-        RollingDigits chip = new RollingDigits();
+        Chip chip = new Chip();
         chip.arm(0, 30);
         Checks.due("matching comes at ticks only", 0, chip.alarmOf(0, 7));
         chip.pass(15);
@@ -89,7 +89,7 @@ public final class AlarmsTest {
     }
 
     private static void promise8Clear() {
-        RollingDigits chip = new RollingDigits();
+        Chip chip = new Chip();
         chip.arm(0, 31);
         chip.arm(2, 31);
         chip.pass(16);

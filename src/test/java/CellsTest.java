@@ -10,7 +10,7 @@ public final class CellsTest {
     }
 
     private static void promise9Fail() {
-        RollingDigits chip = new RollingDigits();
+        Chip chip = new Chip();
         for (int bit = 0; bit < 8; bit++) {
             Checks.due("fail(6, bit, 1)", (2 << bit) - 1, chip.fail(6, bit, 1));
         }
@@ -34,7 +34,7 @@ public final class CellsTest {
     }
 
     private static void promise9CellsInSteps() {
-        RollingDigits chip = new RollingDigits();
+        Chip chip = new Chip();
         chip.fail(0, 0, 1);
         chip.write(0, 0x58);
         Checks.due("59 by its cell", 0x59, chip.registerOf(0, 0));
@@ -48,7 +48,7 @@ public final class CellsTest {
         chip.pass(16);
         Checks.due("58 steps to 59, which is 58", 0x58, chip.registerOf(1, 0));
         Checks.due("it never rolls over", 0, chip.registerOf(1, 5));
-        RollingDigits same = new RollingDigits();
+        Chip same = new Chip();
         same.fail(0, 4, 1);
         same.fail(0, 6, 1);
         same.write(0, 0x59);
@@ -59,7 +59,7 @@ public final class CellsTest {
     }
 
     private static void promise10Heal() {
-        RollingDigits chip = new RollingDigits();
+        Chip chip = new Chip();
         chip.fail(0, 3, 1);
         chip.fail(0, 1, 0);
         chip.fail(4, 7, 1);
@@ -79,7 +79,7 @@ public final class CellsTest {
         Checks.due("heal(0, -1)", Checks.INVALID, chip.heal(0, -1));
         Checks.due("heal(0, 8)", Checks.INVALID, chip.heal(0, 8));
         Checks.due("cells", 1, chip.count(5));
-        RollingDigits ones = new RollingDigits();
+        Chip ones = new Chip();
         ones.fail(2, 0, 1);
         ones.heal(2, 0);
         ones.fail(2, 0, 0);
@@ -87,7 +87,7 @@ public final class CellsTest {
     }
 
     private static void promise11Set() {
-        RollingDigits chip = new RollingDigits();
+        Chip chip = new Chip();
         int[][] settings = {{0, 0, 8, 2}, {1, 0, 1, 0}, {2, 4, 60, 16}};
         for (int[] setting : settings) {
             int what = setting[0];
@@ -104,7 +104,7 @@ public final class CellsTest {
     }
 
     private static void promise11PhaseOfNow() {
-        RollingDigits chip = new RollingDigits();
+        Chip chip = new Chip();
         chip.pass(10);
         chip.set(2, 11);
         Checks.due("below", 10, chip.count(0));

@@ -1,7 +1,7 @@
 /** Runs of 512 calls on an object and on the model: all answers are alike. The numbers are mixed, always the same. */
 public final class ModelTest {
-    private static final int RUNS = 400;
-    private static final int CALLS = 512;
+    private static final int RUNS = 600;
+    private static final int LONGEST_ORDER = 7;
     private static final String[] ORDERS = {"w0,89;", "w1,89;", "w2,35;", "w4,40;", "w5,2;", "w6,004;", "r0;", "r6;", "b0;",
         "b1;", "b2;", "p1;", "p15;", "p999;", "a0,0,3;", "a1,1,0;", "m0,30;", "m1,31;", "m2,0;", "w3,255;"};
     private static final String SIGNS = "wrbpamx0123456789,;;,00 ";
@@ -35,11 +35,13 @@ public final class ModelTest {
     }
 
     private static void runBoth(int run) {
-        RollingDigits chip = new RollingDigits();
+        Chip chip = new Chip();
         Model model = new Model();
         boolean isCalm = run % 4 == 0;
-        for (int call = 0; call < CALLS; call++) {
-            int kind = mixed(100);
+        while (chip.callsLeft() > 0) {
+            int call = Chip.MOST_CALLS - chip.callsLeft();
+            // Towards the end there is no room for an order's characters.
+            int kind = chip.callsLeft() < LONGEST_ORDER ? 99 : mixed(100);
             long[] answers = kind < 45 ? change(chip, model, kind, isCalm) : kind < 60 ? text(chip, model, kind) : ask(chip, model);
             Checks.due("run " + run + ", call " + call + ": " + called, answers[1], answers[0]);
         }
@@ -58,7 +60,7 @@ public final class ModelTest {
         }
     }
 
-    private static long[] change(RollingDigits chip, Model model, int kind, boolean isCalm) {
+    private static long[] change(Chip chip, Model model, int kind, boolean isCalm) {
         int a = about(6);
         int b = value();
         int p = phases();
@@ -112,7 +114,7 @@ public final class ModelTest {
         return new long[] {chip.undo(), model.undo()};
     }
 
-    private static long[] text(RollingDigits chip, Model model, int kind) {
+    private static long[] text(Chip chip, Model model, int kind) {
         if (kind < 49) {
             String order = ORDERS[mixed(ORDERS.length)];
             called = "type all of " + order;
@@ -142,7 +144,7 @@ public final class ModelTest {
         return new long[] {chip.fault(what), model.fault(what)};
     }
 
-    private static long[] ask(RollingDigits chip, Model model) {
+    private static long[] ask(Chip chip, Model model) {
         int a = about(6);
         int what = about(9);
         int m = about(2);

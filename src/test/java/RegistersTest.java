@@ -18,7 +18,7 @@ public final class RegistersTest {
     }
 
     private static void promise1NewObject() {
-        RollingDigits chip = new RollingDigits();
+        Chip chip = new Chip();
         int[] first = {0, 0, 0, 6, 1, 1, 0};
         for (int register = 0; register < 7; register++) {
             Checks.due("new registerOf(" + register + ", 0)", first[register], chip.registerOf(register, 0));
@@ -36,13 +36,13 @@ public final class RegistersTest {
         Checks.due("new count(20)", 2, chip.count(20));
         Checks.due("new count(21)", 0, chip.count(21));
         Checks.due("new count(22)", 16, chip.count(22));
-        RollingDigits other = new RollingDigits();
+        Chip other = new Chip();
         chip.write(0, 0x33);
         Checks.due("another object", 0, other.registerOf(0, 0));
     }
 
     private static void promise2Write() {
-        RollingDigits chip = new RollingDigits();
+        Chip chip = new Chip();
         for (int register = 0; register < 7; register++) {
             Checks.due("write 255", 255, chip.write(register, 255));
             Checks.due("it has it", 255, chip.registerOf(register, 0));
@@ -64,7 +64,7 @@ public final class RegistersTest {
     }
 
     private static void promise3Read() {
-        RollingDigits chip = new RollingDigits();
+        Chip chip = new Chip();
         Checks.due("read weekday", 6, chip.read(3));
         Checks.due("phase behind it", 2, chip.count(0));
         chip.set(0, 8);
@@ -84,7 +84,7 @@ public final class RegistersTest {
     }
 
     private static void promise4BurstInTurn() {
-        RollingDigits chip = new RollingDigits();
+        Chip chip = new Chip();
         Checks.setTime(chip, 0, 1, 1, 0x23, 0x59, 0x59);
         chip.pass(13);
         Checks.due("torn behind the second register", 1, chip.burst(0));
@@ -115,7 +115,7 @@ public final class RegistersTest {
     }
 
     private static void promise4BurstAtOnce() {
-        RollingDigits chip = new RollingDigits();
+        Chip chip = new Chip();
         Checks.setTime(chip, 0, 1, 1, 0x23, 0x59, 0x59);
         chip.pass(15);
         Checks.due("never torn", 0, chip.burst(1));
@@ -133,7 +133,7 @@ public final class RegistersTest {
     }
 
     private static void promise4BurstUntilAlike() {
-        RollingDigits chip = new RollingDigits();
+        Chip chip = new Chip();
         chip.set(2, 60);
         Checks.due("burst(2)", 0, chip.burst(2));
         Checks.due("two are alike", 2, chip.log(0, 9));
@@ -156,7 +156,7 @@ public final class RegistersTest {
         // phases ahead of the burst; torn, as that tick is 51, 49 or 48 phases behind the first read
         int[][] begins = {{37, 1}, {39, 1}, {40, 0}};
         for (int[] begin : begins) {
-            RollingDigits chip = new RollingDigits();
+            Chip chip = new Chip();
             chip.set(0, 8);
             chip.set(2, 44);
             chip.fail(0, 6, 1);
@@ -174,7 +174,7 @@ public final class RegistersTest {
     }
 
     private static void promise4ManyTicks() {
-        RollingDigits chip = new RollingDigits();
+        Chip chip = new Chip();
         chip.set(0, 8);
         chip.set(2, 4);
         Checks.due("only seconds change", 0, chip.burst(0));
@@ -195,7 +195,7 @@ public final class RegistersTest {
     }
 
     private static void promise4LastOfManyIsTorn() {
-        RollingDigits chip = slowChip(0x57, 29);
+        Chip chip = slowChip(0x57, 29);
         chip.burst(0);
         Checks.due("the second burst would be torn", 1, chip.burst(0));
         chip = slowChip(0x57, 29);
@@ -212,7 +212,7 @@ public final class RegistersTest {
 
     /** What an earlier burst was shown does not mend the tear of a later one. */
     private static void promise4EachBurstForItself() {
-        RollingDigits chip = new RollingDigits();
+        Chip chip = new Chip();
         chip.set(0, 8);
         chip.set(2, 4);
         for (int seconds = 0x50; seconds < 0x60; seconds++) {
@@ -233,8 +233,8 @@ public final class RegistersTest {
     }
 
     /** Bursts of 56 phases, ticks each 30 phases: two bursts never are alike. */
-    private static RollingDigits slowChip(int seconds, int phase) {
-        RollingDigits chip = new RollingDigits();
+    private static Chip slowChip(int seconds, int phase) {
+        Chip chip = new Chip();
         chip.set(0, 8);
         chip.set(2, 30);
         chip.write(0, seconds);
@@ -243,7 +243,7 @@ public final class RegistersTest {
     }
 
     private static void promise5Pass() {
-        RollingDigits chip = new RollingDigits();
+        Chip chip = new Chip();
         Checks.due("pass(15)", 0, chip.pass(15));
         Checks.due("pass(1)", 1, chip.pass(1));
         Checks.due("pass(9999)", 624, chip.pass(9999));
@@ -276,7 +276,7 @@ public final class RegistersTest {
             {0x01, 0x09, 0x30}, {0x01, 0x10, 0x31}, {0x01, 0x11, 0x30}, {0x01, 0x12, 0x31}, {0x01, 0x0B, 0x31},
             {0x01, 0x00, 0x31}, {0x01, 0x13, 0x31}, {0x01, 0x14, 0x31}};
         for (int[] month : months) {
-            RollingDigits chip = new RollingDigits();
+            Chip chip = new Chip();
             chip.set(2, 4);
             Checks.setTime(chip, month[0], month[1], month[2] - 1, 0x23, 0x59, 0x59);
             chip.pass(4);
@@ -291,13 +291,13 @@ public final class RegistersTest {
         int[][] steps = {{0x09, 0x10}, {0x0A, 0x10}, {0x0F, 0x10}, {0x1A, 0x20}, {0x60, 0x61}, {0x99, 0xA0},
             {0xA5, 0xA6}, {0xF8, 0xF9}, {0xF9, 0x00}, {0xFF, 0x00}, {0x59, 0x00}, {0x58, 0x59}};
         for (int[] step : steps) {
-            RollingDigits chip = new RollingDigits();
+            Chip chip = new Chip();
             chip.write(0, step[0]);
             chip.pass(16);
             Checks.due("step on from " + step[0], step[1], chip.registerOf(0, 0));
             Checks.due("only 59 rolls over", step[0] == 0x59 ? 1 : 0, chip.registerOf(1, 0));
         }
-        RollingDigits chip = new RollingDigits();
+        Chip chip = new Chip();
         Checks.setTime(chip, 0, 1, 0, 0x23, 0x59, 0x59);
         chip.write(3, 0);
         chip.pass(16);

@@ -12,7 +12,7 @@ public final class TextsTest {
     }
 
     private static void promise23Type() {
-        RollingDigits chip = new RollingDigits();
+        Chip chip = new Chip();
         for (int length = 1; length <= 60; length++) {
             Checks.due("type", length, chip.type(31 + length));
         }
@@ -30,7 +30,7 @@ public final class TextsTest {
     }
 
     private static void promise24ClearText() {
-        RollingDigits chip = new RollingDigits();
+        Chip chip = new Chip();
         Checks.due("empty", 0, chip.clearText());
         Checks.type(chip, "b3;");
         Checks.due("fault", 0, chip.fault(0));
@@ -43,7 +43,7 @@ public final class TextsTest {
     }
 
     private static void fault(String orders, int position, int reason, int cause) {
-        RollingDigits chip = new RollingDigits();
+        Chip chip = new Chip();
         Checks.type(chip, orders);
         String before = Checks.stateOf(chip);
         Checks.due("position in " + orders, position, chip.fault(0));
@@ -79,7 +79,7 @@ public final class TextsTest {
         fault(full + "p12", 57, 1, 3);
         fault(full + "w0,", 57, 1, 3);
         fault(full + "r0x", 57, 1, 2);
-        RollingDigits chip = new RollingDigits();
+        Chip chip = new Chip();
         Checks.type(chip, "w1,23;");
         Checks.retype(chip, "w1,2");
         Checks.due("what was cleared is not read", 4, chip.fault(2));
@@ -107,7 +107,7 @@ public final class TextsTest {
         String[] right = {"", "w0,0;", "w006,255;", "r000;", "r6;", "b2;", "b02;", "p1;", "p999;", "p001;", "a2,4,255;", "m2,31;",
             "m000,000;", "w1,2;r3;b1;p4;a0,0,5;m1,6;"};
         for (String orders : right) {
-            RollingDigits chip = new RollingDigits();
+            Chip chip = new Chip();
             Checks.type(chip, orders);
             for (int what = 0; what <= 2; what++) {
                 Checks.due("no fault in " + orders, Checks.NONE, chip.fault(what));
@@ -117,8 +117,8 @@ public final class TextsTest {
     }
 
     private static void promise26EachOrder() {
-        RollingDigits played = new RollingDigits();
-        RollingDigits called = new RollingDigits();
+        Chip played = new Chip();
+        Chip called = new Chip();
         Checks.type(played, "a1,0,35;m1,30;w0,89;w4,49;r3;p13;b0;b1;b2;p999;");
         Checks.due("orders", 10, played.play());
         called.alarm(1, 0, 35);
@@ -145,7 +145,7 @@ public final class TextsTest {
     }
 
     private static void promise26Play() {
-        RollingDigits chip = new RollingDigits();
+        Chip chip = new Chip();
         String first = Checks.stateOf(chip);
         Checks.due("play of nothing", 0, chip.play());
         Checks.due("a change all the same", 1, chip.count(12));

@@ -22,7 +22,7 @@ public final class ViewTest {
             {5, 0x12, 12, 0}, {5, 0x13, 13, 3}, {5, 0x0C, 12, 1}, {6, 0x00, 0, 0}, {6, 0x99, 99, 0}, {6, 0x9A, 100, 1},
             {6, 0xA0, 100, 1}};
         for (int[] one : cases) {
-            RollingDigits chip = new RollingDigits();
+            Chip chip = new Chip();
             chip.write(one[0], one[1]);
             Checks.due("value", one[1], chip.registerOf(one[0], 0));
             Checks.due("number of " + one[1], one[2], chip.registerOf(one[0], 1));
@@ -32,7 +32,7 @@ public final class ViewTest {
     }
 
     private static void promise12Rest() {
-        RollingDigits chip = new RollingDigits();
+        Chip chip = new Chip();
         int[] last = {59, 59, 23, 7, 31, 12, 99};
         int[] next = {1, 1, 1, 7, 2, 2, 1};
         for (int register = 0; register < 7; register++) {
@@ -59,7 +59,7 @@ public final class ViewTest {
     }
 
     private static void promise13AlarmOf() {
-        RollingDigits chip = new RollingDigits();
+        Chip chip = new Chip();
         Checks.due("weekday and day are not 0", 0, chip.alarmOf(0, 9));
         chip.alarm(0, 3, 6);
         Checks.due("the day is not 0", 0, chip.alarmOf(0, 9));
@@ -90,7 +90,7 @@ public final class ViewTest {
         LocalDate first = LocalDate.of(2000, 1, 1);
         for (int days = 0; days < 36525; days += days < 2000 ? 1 : 13) {
             LocalDate day = first.plusDays(days);
-            RollingDigits chip = new RollingDigits();
+            Chip chip = new Chip();
             Checks.setTime(chip, code(day.getYear() - 2000), code(day.getMonthValue()), code(day.getDayOfMonth()));
             Checks.due("date(0) of " + day, days, chip.date(0));
             Checks.due("date(1) of " + day, day.getDayOfWeek().getValue(), chip.date(1));
@@ -104,7 +104,7 @@ public final class ViewTest {
     private static void promise14NotRight() {
         int[][] wrong = {{4, 0x32}, {4, 0x00}, {4, 0x0A}, {5, 0x00}, {5, 0x13}, {5, 0x0B}, {6, 0x9A}, {6, 0xA0}};
         for (int[] one : wrong) {
-            RollingDigits chip = new RollingDigits();
+            Chip chip = new Chip();
             chip.write(one[0], one[1]);
             for (int what = 0; what <= 4; what++) {
                 Checks.due("date(" + what + ")", what == 3 ? 31 : Checks.NONE, chip.date(what));
@@ -112,7 +112,7 @@ public final class ViewTest {
             Checks.due("date(5)", Checks.INVALID, chip.date(5));
             Checks.due("date(-1)", Checks.INVALID, chip.date(-1));
         }
-        RollingDigits chip = new RollingDigits();
+        Chip chip = new Chip();
         chip.write(5, 2);
         chip.write(6, 1);
         chip.write(4, 0x29);
@@ -129,7 +129,7 @@ public final class ViewTest {
     }
 
     private static void promise15Log() {
-        RollingDigits chip = new RollingDigits();
+        Chip chip = new Chip();
         Checks.due("no burst", Checks.NONE, chip.log(0, 0));
         for (int i = 1; i <= 8; i++) {
             chip.write(6, i);
