@@ -41,14 +41,14 @@ final class Checks {
 
     /**
      * The checks up to the next sentence are for these words of the document, which must stand so under this heading:
-     * where they do not any more, the test is of an older document.
+     * where they do not any more, the test is of an older document. (Without the document at hand this can't be seen.)
      */
     static void sentence(String heading, String words) {
         endSentence();
         sentence = heading + ": " + words;
         askedAheadOfSentence = asked;
-        if (!sectionOf(heading).contains(words)) {
-            tellWrong("the document has no such words");
+        if (Files.exists(DOCUMENT) && !sectionOf(heading).contains(words)) {
+            tellWrong("the document has no such words any more");
         }
     }
 

@@ -16,18 +16,22 @@ public final class EdgesAheadTest {
         comesNever();
         comesIfNothingElseIsDone();
         shareAsAFloat();
+        shareBits();
         shareWithoutBursts();
         countOfTime();
         countOfSets();
         countOfBursts();
         countOfReadsAndWritings();
         countOfStatesAndText();
+        undoRestoresTheLatest();
         undoReturnsStatesLeft();
         undoOfNothing();
+        typeAppends();
         typeReturnsLength();
         typeBeyond60();
         clearTextReturnsLength();
         noFault();
+        playDoesAllOrders();
         playReturnsOrders();
         playIsOneChange();
         playOfAFault();
@@ -333,6 +337,21 @@ public final class EdgesAheadTest {
         Checks.due("some of them torn", 1, torn > 50 && torn < all - 50 ? 1 : 0);
     }
 
+    private static void shareBits() {
+        Checks.sentence("Promise 20", "Returns the bits of the float");
+        Chip chip = new Chip();
+        chip.set(2, 60);
+        chip.pass(59);
+        chip.write(0, 0x59);
+        Checks.due("torn", 1, chip.burst(0));
+        Checks.due("1.0f", 0x3F800000, chip.share());
+        int[] bits = {0x3F000000, 0x3EAAAAAB, 0x3E800000, 0x3E4CCCCD, 0x3E2AAAAB, 0x3E124925, 0x3E000000};
+        for (int all = 2; all <= 8; all++) {
+            chip.burst(1);
+            Checks.due("1 of " + all, bits[all - 2], chip.share());
+        }
+    }
+
     private static void shareWithoutBursts() {
         Checks.sentence("Promise 20", "NOT_FOUND without bursts.");
         Chip chip = new Chip();
@@ -480,6 +499,29 @@ public final class EdgesAheadTest {
         Checks.due("setting 2", 60, chip.count(22));
     }
 
+    private static void undoRestoresTheLatest() {
+        Checks.sentence("Promise 22", "Restores the latest state of the history, which is removed from it.");
+        Chip chip = new Chip();
+        chip.write(6, 1);
+        chip.pass(5);
+        chip.write(6, 2);
+        chip.undo();
+        Checks.due("year", 1, chip.registerOf(6, 0));
+        Checks.due("phase", 5, chip.count(0));
+        Checks.due("states", 2, chip.count(12));
+        chip.undo();
+        Checks.due("year", 1, chip.registerOf(6, 0));
+        Checks.due("phase", 0, chip.count(0));
+        Checks.due("states", 1, chip.count(12));
+        chip.burst(1);
+        chip.undo();
+        Checks.due("no burst", 0, chip.count(6));
+        Checks.due("year", 1, chip.registerOf(6, 0));
+        chip.undo();
+        Checks.due("year", 0, chip.registerOf(6, 0));
+        Checks.due("states", 0, chip.count(12));
+    }
+
     private static void undoReturnsStatesLeft() {
         Checks.sentence("Promise 22", "Returns the number of states that are left in the history");
         for (int changes = 1; changes <= 6; changes++) {
@@ -509,6 +551,24 @@ public final class EdgesAheadTest {
         Checks.due("no changes", Checks.IMPOSSIBLE, chip.undo());
         chip.write(7, 1);
         Checks.due("nor an error", Checks.IMPOSSIBLE, chip.undo());
+    }
+
+    private static void typeAppends() {
+        Checks.sentence("Promise 23", "Appends a character to the text.");
+        Chip chip = new Chip();
+        for (int character = 32; character <= 126; character++) {
+            boolean isOrder = "wrbpam".indexOf(character) >= 0;
+            chip.type(character);
+            Checks.due("the text is " + character, isOrder ? 1 : 0, chip.fault(2));
+            Checks.due("length", 1, chip.clearText());
+        }
+        Checks.type(chip, "r0;r1");
+        Checks.due("not closed", 3, chip.fault(0));
+        chip.type(';');
+        Checks.due("closed", Checks.NONE, chip.fault(0));
+        chip.type(' ');
+        Checks.due("a character more", 6, chip.fault(0));
+        Checks.due("no change", 0, chip.count(12));
     }
 
     private static void typeReturnsLength() {
@@ -573,6 +633,23 @@ public final class EdgesAheadTest {
         Checks.due("many orders", 0, faults.applyAsInt("w6,255;r6;b2;p999;a2,4,255;m2,31;"));
         Checks.due("not closed", 3, faults.applyAsInt("r0"));
         Checks.due("a fault behind others", 3, faults.applyAsInt("r0;r0;r0;r7;"));
+    }
+
+    private static void playDoesAllOrders() {
+        Checks.sentence("Promise 26", "Does all orders of the text, which stays.");
+        Chip chip = new Chip();
+        Checks.type(chip, "w0,89;p15;r1;b1;w1,8;a2,1,8;m2,29;p960;");
+        Checks.due("play", 8, chip.play());
+        Checks.due("the text stays", 39, chip.count(13));
+        // The minute is 8 as it is written behind the tick; 60 ticks later it is 9.
+        Checks.due("minutes", 9, chip.registerOf(1, 0));
+        Checks.due("the alarm came while it was 8", 59, chip.alarmOf(2, 8));
+        Checks.due("phases", 15 + 2 + 14 + 960, chip.count(10));
+        Checks.due("reads", 1, chip.count(8));
+        Checks.due("bursts", 1, chip.count(6));
+        Checks.due("writings", 2, chip.count(9));
+        Checks.due("once more", 8, chip.play());
+        Checks.due("writings", 4, chip.count(9));
     }
 
     private static void playReturnsOrders() {

@@ -1,3 +1,4 @@
+import java.util.Arrays;
 import java.util.function.Supplier;
 
 /** The range of each argument of each call, by the document's own words: the first and the last one, and those beyond. */
@@ -16,6 +17,7 @@ public final class EdgesArgumentsTest {
         ahead();
         counts();
         texts();
+        anyArgument();
         Checks.end("EdgesArgumentsTest");
     }
 
@@ -175,6 +177,66 @@ public final class EdgesArgumentsTest {
             boolean isIn = what >= 0 && what <= 2;
             Checks.due("fault(" + what + ") is refused", isIn ? 0 : 1, withFault().fault(what) == Checks.INVALID ? 1 : 0);
             Checks.due("fault(" + what + ") of no fault", isIn ? Checks.NONE : Checks.INVALID, new Chip().fault(what));
+        }
+    }
+
+    /** Every argument for itself beyond its range on both sides, and together with each other one. */
+    private static void anyArgument() {
+        String any = "INVALID_ARGUMENT if an argument is out of range";
+        invalid("Promise 2", any, (chip, x) -> chip.write(x[0], x[1]), new int[][] {{0, 6}, {0, 255}});
+        invalid("Promise 3", "INVALID_ARGUMENT if register is out of range.", (chip, x) -> chip.read(x[0]), new int[][] {{0, 6}});
+        invalid("Promise 4", "INVALID_ARGUMENT if mode is out of range.", (chip, x) -> chip.burst(x[0]), new int[][] {{0, 2}});
+        invalid("Promise 5", "INVALID_ARGUMENT if phases is out of range.", (chip, x) -> chip.pass(x[0]), new int[][] {{1, 9999}});
+        invalid("Promise 6", any, (chip, x) -> chip.alarm(x[0], x[1], x[2]), new int[][] {{0, 2}, {0, 4}, {0, 255}});
+        invalid("Promise 7", any, (chip, x) -> chip.arm(x[0], x[1]), new int[][] {{0, 2}, {-1, 31}});
+        invalid("Promise 9", any, (chip, x) -> chip.fail(x[0], x[1], x[2]), new int[][] {{0, 6}, {0, 7}, {0, 1}});
+        invalid("Promise 10", any, (chip, x) -> chip.heal(x[0], x[1]), new int[][] {{0, 6}, {0, 7}});
+        invalid("Promise 11", any, (chip, x) -> chip.set(0, x[0]), new int[][] {{0, 8}});
+        invalid("Promise 11", any, (chip, x) -> chip.set(1, x[0]), new int[][] {{0, 1}});
+        invalid("Promise 11", any, (chip, x) -> chip.set(2, x[0]), new int[][] {{4, 60}});
+        int[] noSettings = {-1, 3, Integer.MIN_VALUE, Integer.MAX_VALUE};
+        for (int what : noSettings) {
+            for (int value = -1; value <= 61; value++) {
+                Checks.due("set(" + what + ", " + value + ")", Checks.INVALID, new Chip().set(what, value));
+            }
+        }
+        invalid("Promise 12", any, (chip, x) -> chip.registerOf(x[0], x[1]), new int[][] {{0, 6}, {0, 6}});
+        invalid("Promise 13", any, (chip, x) -> chip.alarmOf(x[0], x[1]), new int[][] {{0, 2}, {0, 9}});
+        invalid("Promise 14", "INVALID_ARGUMENT if what is out of range", (chip, x) -> chip.date(x[0]), new int[][] {{0, 4}});
+        invalid("Promise 15", any, (chip, x) -> chip.log(x[0], x[1]), new int[][] {{0, Integer.MAX_VALUE}, {0, 9}});
+        invalid("Promise 18", any, (chip, x) -> chip.ifBurst(x[0], x[1]), new int[][] {{0, 2}, {0, 9}});
+        invalid("Promise 19", "INVALID_ARGUMENT if alarm is out of range", (chip, x) -> chip.comesIn(x[0]), new int[][] {{0, 2}});
+        invalid("Promise 21", "INVALID_ARGUMENT if what is out of range.", (chip, x) -> chip.count(x[0]), new int[][] {{0, 22}});
+        invalid("Promise 21", "INVALID_ARGUMENT if what is out of range.", (chip, x) -> chip.count(x[0] + 14), new int[][] {{6, 8}});
+        invalid("Promise 23", "INVALID_ARGUMENT if character is out of range", (chip, x) -> chip.type(x[0]), new int[][] {{32, 126}});
+        invalid("Promise 25", "INVALID_ARGUMENT if what is out of range", (chip, x) -> chip.fault(x[0]), new int[][] {{0, 2}});
+    }
+
+    /** A call with all of its arguments open. */
+    private interface CallOfAll {
+        int on(Chip chip, int[] arguments);
+    }
+
+    private static void invalid(String promise, String words, CallOfAll call, int[][] ranges) {
+        Checks.sentence(promise, words);
+        int combinations = 1;
+        for (int i = 0; i < ranges.length; i++) {
+            combinations *= 4;
+        }
+        for (int combination = 0; combination < combinations; combination++) {
+            int[] arguments = new int[ranges.length];
+            boolean isOutOfRange = false;
+            int rest = combination;
+            for (int i = 0; i < ranges.length; i++) {
+                // first, last, below, above
+                int place = rest % 4;
+                rest /= 4;
+                arguments[i] = place < 2 ? ranges[i][place] : place == 2 ? ranges[i][0] - 1 : ranges[i][1] + 1;
+                isOutOfRange |= arguments[i] < ranges[i][0] || arguments[i] > ranges[i][1];
+            }
+            int answer = call.on(new Chip(), arguments);
+            int want = isOutOfRange ? 1 : 0;
+            Checks.due("refused is " + Arrays.toString(arguments), want, answer == Checks.INVALID ? 1 : 0);
         }
     }
 }

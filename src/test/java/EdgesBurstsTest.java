@@ -198,6 +198,18 @@ public final class EdgesBurstsTest {
             Checks.due("phases", 2 * 7 * readPhases, chip.count(10));
             Checks.due("mode", 2, chip.log(0, 7));
         }
+        // The ticks are in 5, 12, 19, 26 and 33; of the fifth burst the seconds are read in 28, or in 34.
+        Chip fifth = untilAlike(7, 5);
+        Checks.due("made", 5, fifth.log(0, 9));
+        Checks.due("from 0 to 6: the seconds are read first", 4, fifth.log(0, 0));
+        fifth = new Chip();
+        fifth.set(1, 1);
+        fifth.set(0, 1);
+        fifth.set(2, 7);
+        fifth.pass(2);
+        fifth.burst(2);
+        Checks.due("made", 5, fifth.log(0, 9));
+        Checks.due("from 6 to 0: the seconds are read last", 5, fifth.log(0, 0));
         Chip backwards = tickIn(5, 1, 1, OLD);
         Checks.due("not torn", 0, backwards.burst(2));
         Checks.due("torn first, then twice the new time", 3, backwards.log(0, 9));

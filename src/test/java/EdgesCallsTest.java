@@ -3,15 +3,19 @@ import java.time.LocalDate;
 /** The sentences of the promises 1 to 15 that name boundary cases of what is returned, each with a test of its own. */
 public final class EdgesCallsTest {
     public static void main(String[] args) {
+        setsAreBits();
+        noTimePasses();
         newObject();
         writeReturnsItsValueThen();
         writePassesNoTime();
         readReturnsWhatIsSeen();
         burstReturnsIfTorn();
+        burstReadsAll();
         passReturnsTicks();
         alarmReturnsPreviousOne();
         armReturnsIfItWas();
         armKeepsItsMask();
+        armGivesAnotherMask();
         clearReturnsFlags();
         failReturnsTheValue();
         failIsForNowOn();
@@ -28,6 +32,7 @@ public final class EdgesCallsTest {
         alarmOfArmedAndFlag();
         alarmOfCame();
         alarmOfMatches();
+        dateOfItsThreeRegisters();
         daysBehindTheFirst();
         weekdayByTheDate();
         weekdayHasThisNumber();
@@ -35,9 +40,72 @@ public final class EdgesCallsTest {
         daysUntilTheEnd();
         dateNotRight();
         latestSix();
+        latestIsZero();
         logTellsAll();
         logOfNotSoMany();
         Checks.end("EdgesCallsTest");
+    }
+
+    private static void setsAreBits() {
+        Checks.sentence("Terms", "Sets are told as bits: bit k is for the one with the number k.");
+        for (int register = 0; register < 7; register++) {
+            Chip chip = new Chip();
+            chip.write(register, 0xFA);
+            Checks.due("not right is " + register, 1 << register, chip.count(2));
+        }
+        for (int alarm = 0; alarm < 3; alarm++) {
+            Chip chip = new Chip();
+            chip.arm(alarm, 31);
+            chip.pass(16);
+            Checks.due("flag of " + alarm, 1 << alarm, chip.count(3));
+            Checks.due("flag of " + alarm, 1 << alarm, chip.clear());
+        }
+        for (int bit = 0; bit < 8; bit++) {
+            Chip chip = new Chip();
+            chip.fail(5, bit, 0);
+            Checks.due("failed cell " + bit, 1 << bit, chip.registerOf(5, 4));
+        }
+        for (int register = 0; register < 5; register++) {
+            Chip chip = Checks.showing(1, 1, 1, 1, 1);
+            for (int other = 0; other < 5; other++) {
+                chip.alarm(0, other, other == register ? 9 : 1);
+            }
+            chip.arm(0, 1 << register);
+            Checks.due("masked is " + register, 1, chip.alarmOf(0, 9));
+        }
+    }
+
+    private static void noTimePasses() {
+        Checks.sentence("Changes and errors", "what there is; no time passes.");
+        Chip chip = new Chip();
+        chip.arm(0, 31);
+        chip.burst(1);
+        chip.pass(1);
+        for (int what = 0; what <= 9; what++) {
+            chip.registerOf(0, what);
+            chip.alarmOf(0, what);
+            chip.date(what);
+            chip.log(0, what);
+            chip.ifBurst(2, what);
+            chip.count(what);
+        }
+        chip.readable();
+        chip.safeIn();
+        chip.comesIn(0);
+        chip.share();
+        Checks.type(chip, "r0;");
+        chip.fault(0);
+        chip.clearText();
+        chip.clear();
+        chip.alarm(0, 0, 0);
+        chip.arm(0, 31);
+        chip.fail(6, 0, 0);
+        chip.heal(6, 0);
+        chip.set(2, 16);
+        Checks.due("phase", 15, chip.count(0));
+        Checks.due("phases", 15, chip.count(10));
+        Checks.due("ticks", 0, chip.count(1));
+        Checks.due("came", 0, chip.count(4));
     }
 
     private static void newObject() {
@@ -108,6 +176,20 @@ public final class EdgesCallsTest {
         Checks.due("told", 1, chip.log(0, 1));
         Checks.due("the log says so", 1, chip.log(0, 8));
         Checks.due("and of the one ahead", 0, chip.log(1, 8));
+    }
+
+    private static void burstReadsAll() {
+        Checks.sentence("Reads, bursts", "In a burst all registers are read:");
+        for (int mode = 0; mode <= 2; mode++) {
+            for (int order = 0; order <= 1; order++) {
+                Chip chip = Checks.showing(0xF1, 0xF2, 0xF3, 0xF4, 0xF5, 0xF6, 0xF7);
+                chip.set(1, order);
+                chip.set(2, 60);
+                chip.burst(mode);
+                Checks.same("told", Checks.told(0xF1, 0xF2, 0xF3, 0xF4, 0xF5, 0xF6, 0xF7), Checks.toldBy(chip));
+                Checks.due("no single reads", 0, chip.count(8));
+            }
+        }
     }
 
     private static void passReturnsTicks() {
@@ -189,6 +271,25 @@ public final class EdgesCallsTest {
         chip.pass(32);
         Checks.due("its flag stays", 1, chip.alarmOf(1, 7));
         Checks.due("how often it came stays", 1, chip.alarmOf(1, 8));
+    }
+
+    private static void armGivesAnotherMask() {
+        Checks.sentence("Promise 7", "Arms an alarm, or gives it another mask; or takes its arms.");
+        Chip chip = new Chip();
+        for (int mask = 31; mask >= 0; mask--) {
+            chip.arm(2, mask);
+            Checks.due("mask", mask, chip.alarmOf(2, 5));
+            Checks.due("armed", 1, chip.alarmOf(2, 6));
+        }
+        chip.arm(2, -1);
+        Checks.due("armed", 0, chip.alarmOf(2, 6));
+        chip.arm(2, 16);
+        Checks.due("mask", 16, chip.alarmOf(2, 5));
+        Checks.due("armed", 1, chip.alarmOf(2, 6));
+        Checks.due("another one keeps its own", 0, chip.alarmOf(1, 5));
+        Checks.due("its values stay", 0, chip.alarm(2, 0, 5));
+        chip.arm(2, 3);
+        Checks.due("its values stay", 5, chip.alarmOf(2, 0));
     }
 
     private static void clearReturnsFlags() {
@@ -490,6 +591,16 @@ public final class EdgesCallsTest {
         return chip;
     }
 
+    private static void dateOfItsThreeRegisters() {
+        Checks.sentence("Promise 14", "Returns something of the date, by the registers day, month and year.");
+        Chip chip = Checks.showing(0xFF, 0xFF, 0xFF, 0xFF, 0x01, 0x03, 0x04);
+        Checks.due("days", 1461 + 60, chip.date(0));
+        Checks.due("weekday", 1, chip.date(1));
+        Checks.due("the register weekday", 0, chip.date(2));
+        Checks.due("length", 31, chip.date(3));
+        Checks.due("days until the end", 305, chip.date(4));
+    }
+
     private static void daysBehindTheFirst() {
         Checks.sentence("Promise 14", "0: how many days it is behind the first day of the year 0");
         Checks.due("the first day", 0, new Chip().date(0));
@@ -599,6 +710,20 @@ public final class EdgesCallsTest {
                 Checks.due("year " + ago + " ago of " + bursts, want, chip.log(ago, 6));
                 Checks.due("mode " + ago + " ago", ago < entries ? want % 2 : Checks.NONE, chip.log(ago, 7));
             }
+        }
+    }
+
+    private static void latestIsZero() {
+        Checks.sentence("Promise 15", "`ago`: 0 for the latest one, and so on");
+        Chip chip = new Chip();
+        for (int i = 1; i <= 9; i++) {
+            chip.write(6, i);
+            chip.burst(1);
+            Checks.due("the latest one", i, chip.log(0, 6));
+            Checks.due("the one ahead of it", i == 1 ? Checks.NONE : i - 1, chip.log(1, 6));
+        }
+        for (int ago = 0; ago < 6; ago++) {
+            Checks.due("of 9 the one " + ago + " ago", 9 - ago, chip.log(ago, 6));
         }
     }
 

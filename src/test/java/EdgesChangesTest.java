@@ -134,6 +134,7 @@ public final class EdgesChangesTest {
         atMost4States();
         oldestIsDropped();
         everythingButTheText();
+        entriesOfTheLogComeBack();
         playRecordsOnce();
         invalidRatherThanImpossible();
         invalidRatherThanLimit();
@@ -365,6 +366,35 @@ public final class EdgesChangesTest {
         chip.write(0, 1);
         chip.undo();
         Checks.due("length", 0, chip.count(13));
+    }
+
+    private static Chip afterBursts(int bursts) {
+        Chip chip = new Chip();
+        for (int i = 1; i <= bursts; i++) {
+            chip.write(6, i);
+            chip.burst(i % 3);
+        }
+        return chip;
+    }
+
+    /** Also those of a full log that the bursts behind them drove out. */
+    private static void entriesOfTheLogComeBack() {
+        Checks.sentence(IN, "each change records everything before it");
+        for (int bursts = 0; bursts <= 13; bursts++) {
+            for (int more = 1; more <= 4; more++) {
+                Chip chip = afterBursts(bursts);
+                for (int i = 0; i < more; i++) {
+                    chip.burst(1);
+                }
+                undoAll(chip, more);
+                Checks.same(bursts + " bursts, " + more + " undone", Checks.stateOf(afterBursts(bursts)), Checks.stateOf(chip));
+            }
+            Chip played = afterBursts(bursts);
+            Checks.type(played, "b0;b0;b0;b0;b0;b0;b0;b0;");
+            played.play();
+            played.undo();
+            Checks.same(bursts + " bursts, 8 orders undone", Checks.stateOf(afterBursts(bursts)), Checks.stateOf(played));
+        }
     }
 
     private static void playRecordsOnce() {
