@@ -22,6 +22,7 @@ public final class EdgesBurstsTest {
         upToItsLastRead();
         lastReadOfTheOtherOrder();
         twelveTicks();
+        ofThisBurstAlone();
         atOnceIsNeverTorn();
         beginningOfTheLastBurst();
         lastOneIsTold();
@@ -346,6 +347,26 @@ public final class EdgesBurstsTest {
             Checks.due("seconds", Checks.code((seconds + 12) % 60), chip.log(0, 0));
             Checks.due("minutes", seconds >= 50 ? 0x11 : 0x10, chip.log(0, 1));
             Checks.due("ticks", 14, chip.count(1));
+        }
+    }
+
+    /** What was told was shown in an earlier burst, at its beginning or behind any of its 12 ticks; now it is torn. */
+    private static void ofThisBurstAlone() {
+        Checks.sentence(IN, "at its beginning, or behind some tick up to its last read.");
+        for (int ticks = 0; ticks <= 12; ticks++) {
+            for (int mode = 0; mode <= 2; mode++) {
+                Chip chip = Checks.showing(Checks.code(59 - ticks), 0x01);
+                chip.set(0, 8);
+                chip.set(2, 4);
+                chip.burst(mode);
+                chip.set(2, 60);
+                chip.set(0, 2);
+                chip.pass(59 - chip.count(0));
+                chip.write(1, 0x00);
+                chip.write(0, 0x59);
+                Checks.due("torn, shown behind " + ticks + " ticks of a burst before", 1, chip.burst(0));
+                Checks.same("told", Checks.told(0x59, 1, 0, 6, 1, 1, 0), Checks.toldBy(chip));
+            }
         }
     }
 
